@@ -437,7 +437,6 @@ final class NaiveSorter {
         Counts counts = new Counts();
         counts.read = pagesOf(a.size()) + pagesOf(b.size());
         for (Rec rec : a) {
-            int before = counts.made.size();
             boolean hasPair = false;
             for (Rec partner : b) {
                 if (partner.key == rec.key) {
@@ -450,7 +449,6 @@ final class NaiveSorter {
             if (how == 1 && !hasPair || how == 2 && hasPair || how == 3 && !hasPair) {
                 counts.made.add(rec);
             }
-            state(counts.made.size() >= before);
         }
         for (int key = -999; key <= 999 && how < 2; key++) {
             int ofA = 0;
