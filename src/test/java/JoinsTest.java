@@ -104,6 +104,12 @@ public final class JoinsTest {
         Check.due("16 the next has another key", 0, () -> x.spilt());
         x.join(4, 3, 0);
         Check.due("16 few of b", 0, () -> x.spilt());
+        MoraineSort y = new MoraineSort();
+        y.setMemory(2, 3);
+        Check.fileOf(y, -1, 0);
+        Check.fileOf(y, 0, 0, 0);
+        y.join(0, 1, 1);
+        Check.due("16 one of a alone, at its end", 0, () -> y.spilt());
     }
 
     private static void joinEmpty() {
