@@ -1,7 +1,23 @@
 /** Counts and prints the answers that are not due. */
 final class Check {
+    static final String NO_FILE = "throws.IndexOutOfBoundsException";
+    static final String NO_ARGUMENT = "throws.IllegalArgumentException";
+    static final String NO_STATE = "throws.IllegalStateException";
+
+    private static final int NEXTS = 140;
+
     interface Call {
         Object answer();
+    }
+
+    /** Makes an object, each time one in the same state. */
+    interface Maker {
+        MoraineSort make();
+    }
+
+    /** A call on an object that is told. */
+    interface Use {
+        Object of(MoraineSort x);
     }
 
     private static int wrong = 0;
@@ -27,15 +43,47 @@ final class Check {
     }
 
     static void noFile(String what, Call call) {
-        due(what, "throws.IndexOutOfBoundsException", call);
+        due(what, NO_FILE, call);
     }
 
     static void noArgument(String what, Call call) {
-        due(what, "throws.IllegalArgumentException", call);
+        due(what, NO_ARGUMENT, call);
     }
 
     static void noState(String what, Call call) {
-        due(what, "throws.IllegalStateException", call);
+        due(what, NO_STATE, call);
+    }
+
+    /** The call throws this; then the object goes on as its twin does, which did not get it. */
+    static void refused(String what, String exception, Maker maker, Use call) {
+        MoraineSort x = maker.make();
+        due(what, exception, () -> call.of(x));
+        goesOnAs(what + ": nothing is changed", maker.make(), x);
+    }
+
+    /** The call answers this; then the object goes on as its twin does, which did not get it. */
+    static void onlyAsks(String what, Object want, Maker maker, Use call) {
+        MoraineSort x = maker.make();
+        due(what, want, () -> call.of(x));
+        goesOnAs(what + ": nothing is changed, nor counted", maker.make(), x);
+    }
+
+    private static void goesOnAs(String what, MoraineSort twin, MoraineSort x) {
+        String want = courseOf(twin);
+        due(what, true, () -> courseOf(x).equals(want));
+    }
+
+    /** All that an object tells, and does from now on: also what no single call tells. */
+    private static String courseOf(MoraineSort x) {
+        StringBuilder all = new StringBuilder(stateOf(x));
+        for (int i = 0; i < NEXTS; i++) {
+            all.append(' ').append(said(() -> x.next()));
+        }
+        all.append(' ').append(stateOf(x));
+        all.append(' ').append(said(() -> x.addFile()));
+        all.append(' ').append(stateOf(x));
+        all.append(' ').append(said(() -> x.setMemory(4, 4)));
+        return all.toString();
     }
 
     /** All that an object tells, so that two states can be compared. */
@@ -62,11 +110,44 @@ final class Check {
         return row.toString();
     }
 
+    /** The sizes of the runs of the latest sort. */
+    static String runsOf(MoraineSort x) {
+        StringBuilder all = new StringBuilder();
+        for (int run = 0; run < x.runs(); run++) {
+            all.append(run == 0 ? "" : " ").append(x.runSize(run));
+        }
+        return all.toString();
+    }
+
+    /** The merges of the latest sort: of how many runs each was, and how many records it made. */
+    static String mergesOf(MoraineSort x) {
+        StringBuilder all = new StringBuilder();
+        for (int merge = 0; merge < x.merges(); merge++) {
+            all.append(merge == 0 ? "" : " ").append(x.merge(merge, 0)).append('>')
+                    .append(x.merge(merge, 1));
+        }
+        return all.toString();
+    }
+
+    /** The pages that were read, written and spilt. */
+    static String countsOf(MoraineSort x) {
+        return x.read() + " " + x.written() + " " + x.spilt();
+    }
+
     /** Adds a file with these keys, and the marks from 0 on. */
     static int fileOf(MoraineSort x, int... keys) {
         int file = x.addFile();
         for (int place = 0; place < keys.length; place++) {
             x.put(file, keys[place], place);
+        }
+        return file;
+    }
+
+    /** Adds a file with so many records with this key. */
+    static int sameOf(MoraineSort x, int key, int count) {
+        int file = x.addFile();
+        for (int place = 0; place < count; place++) {
+            x.put(file, key, place);
         }
         return file;
     }

@@ -1,12 +1,14 @@
-/** Long runs of calls, always the same, on the program and on the naive one: each answer is compared. */
+/** Long runs of calls, always the same, on the program and on the naive one, answer by answer. */
 public final class RandomRunsTest {
-    private static final int RUNS = 150;
+    private static final int RUNS = 1500;
+    /** An object is promised for so many calls, and no more. */
     private static final int CALLS = 512;
 
     private long seed;
     private final MoraineSort x = new MoraineSort();
     private final NaiveSorter y = new NaiveSorter();
     private final StringBuilder done = new StringBuilder();
+    private int calls = 0;
     private boolean isWrong = false;
 
     private RandomRunsTest(int run) {
@@ -16,7 +18,7 @@ public final class RandomRunsTest {
     public static void main(String[] args) {
         for (int run = 0; run < RUNS; run++) {
             RandomRunsTest test = new RandomRunsTest(run);
-            for (int call = 0; call < CALLS && !test.isWrong; call++) {
+            while (test.calls < CALLS && !test.isWrong) {
                 test.call();
             }
         }
@@ -81,6 +83,10 @@ public final class RandomRunsTest {
     }
 
     private void compare(String what, Check.Call program, Check.Call naive) {
+        if (calls == CALLS || isWrong) {
+            return;
+        }
+        calls++;
         done.append(what).append('\n');
         String want = Check.said(naive);
         String got = Check.said(program);
@@ -129,8 +135,8 @@ public final class RandomRunsTest {
             int step = isUpRow ? some(3) : some(3) == 0 ? near(-999, 999) : between(-12, 12);
             int span = isUpRow ? 999 : some(3) == 0 ? between(1, 12) : near(1, 999);
             int count = some(3) == 0 ? near(1, 120) : between(1, 20);
-            compare("putRow(" + file + ", " + first + ", " + step + ", " + span + ", " + count + ")",
-                    () -> x.putRow(file, first, step, span, count),
+            compare("putRow(" + file + ", " + first + ", " + step + ", " + span + ", " + count
+                    + ")", () -> x.putRow(file, first, step, span, count),
                     () -> y.putRow(file, first, step, span, count));
         } else {
             int many = y.files() > 9 ? some(6) : 1;

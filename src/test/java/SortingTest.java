@@ -17,23 +17,6 @@ public final class SortingTest {
         Check.end("SortingTest");
     }
 
-    private static String runsOf(MoraineSort x) {
-        StringBuilder all = new StringBuilder();
-        for (int run = 0; run < x.runs(); run++) {
-            all.append(run == 0 ? "" : " ").append(x.runSize(run));
-        }
-        return all.toString();
-    }
-
-    private static String mergesOf(MoraineSort x) {
-        StringBuilder all = new StringBuilder();
-        for (int merge = 0; merge < x.merges(); merge++) {
-            all.append(merge == 0 ? "" : " ").append(x.merge(merge, 0)).append('>')
-                    .append(x.merge(merge, 1));
-        }
-        return all.toString();
-    }
-
     private static MoraineSort withRow(int page, int memory, int first, int step, int span,
             int count) {
         MoraineSort x = new MoraineSort();
@@ -49,9 +32,9 @@ public final class SortingTest {
         Check.due("17 row", "1 2 3 4 5 6 7 8 9 10 11 12 13", () -> Check.rowOf(x, 1, false));
         Check.due("17 the file stays", 13, () -> x.at(0, 0, false));
         Check.due("18 runs", 3, () -> x.runs());
-        Check.due("19 run sizes", "6 6 1", () -> runsOf(x));
+        Check.due("19 run sizes", "6 6 1", () -> Check.runsOf(x));
         Check.due("20 merges", 2, () -> x.merges());
-        Check.due("21 merges", "2>12 2>13", () -> mergesOf(x));
+        Check.due("21 merges", "2>12 2>13", () -> Check.mergesOf(x));
         Check.due("14 read: 7, 3 and 3, 6 and 1", 20, () -> x.read());
         Check.due("15 written: 7, 6, 7", 20, () -> x.written());
         Check.due("30 the same", 40, () -> x.sortCost(0, false, false, 3));
@@ -61,8 +44,8 @@ public final class SortingTest {
         MoraineSort x = withRow(2, 3, 13, -1, 999, 13);
         x.sort(0, false, true, true);
         Check.due("17 down", "13 12 11 10 9 8 7 6 5 4 3 2 1", () -> Check.rowOf(x, 1, false));
-        Check.due("19 run sizes", "6 6 1", () -> runsOf(x));
-        Check.due("21 merges", "2>7 2>13", () -> mergesOf(x));
+        Check.due("19 run sizes", "6 6 1", () -> Check.runsOf(x));
+        Check.due("21 merges", "2>7 2>13", () -> Check.mergesOf(x));
         Check.due("14 read: 7, 1 and 3, 3 and 4", 18, () -> x.read());
         Check.due("15 written: 7, 4, 7", 18, () -> x.written());
         Check.due("30 the same", 36, () -> x.sortCost(0, false, true, 3));
@@ -71,20 +54,20 @@ public final class SortingTest {
     private static void leastOfFour() {
         MoraineSort x = withRow(2, 5, 0, 7, 45, 45);
         x.sort(0, false, true, false);
-        Check.due("19 run sizes", "10 10 10 10 5", () -> runsOf(x));
-        Check.due("21 first (5 - 2) % 3 + 2 runs", "2>15 4>45", () -> mergesOf(x));
+        Check.due("19 run sizes", "10 10 10 10 5", () -> Check.runsOf(x));
+        Check.due("21 first (5 - 2) % 3 + 2 runs", "2>15 4>45", () -> Check.mergesOf(x));
         MoraineSort y = withRow(2, 5, 0, 7, 30, 30);
         y.sort(0, false, true, false);
-        Check.due("21 first (3 - 2) % 3 + 2 runs", "3>30", () -> mergesOf(y));
+        Check.due("21 first (3 - 2) % 3 + 2 runs", "3>30", () -> Check.mergesOf(y));
         MoraineSort z = withRow(2, 5, 0, 7, 70, 70);
         z.sort(0, false, true, false);
-        Check.due("21 first (7 - 2) % 3 + 2 runs", "4>40 4>70", () -> mergesOf(z));
+        Check.due("21 first (7 - 2) % 3 + 2 runs", "4>40 4>70", () -> Check.mergesOf(z));
     }
 
     private static void levelsOfFour() {
         MoraineSort x = withRow(2, 5, 0, 7, 45, 45);
         x.sort(0, false, false, false);
-        Check.due("21 the last stays alone", "4>40 2>45", () -> mergesOf(x));
+        Check.due("21 the last stays alone", "4>40 2>45", () -> Check.mergesOf(x));
         Check.due("14 read: 23, 20, 20 and 3", 66, () -> x.read());
         Check.due("15 written: 23, 20, 23", 66, () -> x.written());
     }
@@ -92,25 +75,25 @@ public final class SortingTest {
     private static void leastTakesTheFewest() {
         MoraineSort x = withRow(2, 3, 0, 5, 999, 26);
         x.sort(0, false, true, false);
-        Check.due("19 run sizes", "6 6 6 6 2", () -> runsOf(x));
-        Check.due("21 by size, then by place", "2>8 2>12 2>14 2>26", () -> mergesOf(x));
+        Check.due("19 run sizes", "6 6 6 6 2", () -> Check.runsOf(x));
+        Check.due("21 by size, then by place", "2>8 2>12 2>14 2>26", () -> Check.mergesOf(x));
         Check.due("14 read: 13, 1 and 3, 3 and 3, 3 and 4, 6 and 7", 43, () -> x.read());
     }
 
     private static void replacingUp() {
         MoraineSort x = withRow(2, 3, 0, 1, 999, 50);
         x.sort(0, true, false, false);
-        Check.due("18 one run", "50", () -> runsOf(x));
+        Check.due("18 one run", "50", () -> Check.runsOf(x));
         Check.due("20 no merge", 0, () -> x.merges());
         Check.due("14 read", 25, () -> x.read());
         MoraineSort same = withRow(2, 3, 5, 0, 999, 50);
         same.sort(0, true, false, false);
-        Check.due("18 the same keys are not frozen", "50", () -> runsOf(same));
+        Check.due("18 the same keys are not frozen", "50", () -> Check.runsOf(same));
         same.sort(0, true, false, true);
-        Check.due("18 nor for down", "50", () -> runsOf(same));
+        Check.due("18 nor for down", "50", () -> Check.runsOf(same));
         MoraineSort down = withRow(2, 3, 50, -1, 999, 50);
         down.sort(0, true, false, false);
-        Check.due("19 all frozen each time", "6 6 6 6 6 6 6 6 2", () -> runsOf(down));
+        Check.due("19 all frozen each time", "6 6 6 6 6 6 6 6 2", () -> Check.runsOf(down));
     }
 
     private static void replacingFreezes() {
@@ -119,8 +102,8 @@ public final class SortingTest {
         Check.fileOf(x, 5, 3, 9, 7, 1, 8, 4, 2, 6, 0);
         x.sort(0, true, true, false);
         // 1 goes, 4 comes; 3 goes, 2 is frozen; 4 goes, 6 comes; 5 goes, 0 is frozen; 6 7 8 9 go
-        Check.due("19 run sizes", "8 2", () -> runsOf(x));
-        Check.due("21 merges", "2>10", () -> mergesOf(x));
+        Check.due("19 run sizes", "8 2", () -> Check.runsOf(x));
+        Check.due("21 merges", "2>10", () -> Check.mergesOf(x));
         Check.due("17 row", "0:9 1:4 2:7 3:1 4:6 5:0 6:8 7:3 8:5 9:2",
                 () -> Check.rowOf(x, 1, true));
         Check.due("14 read: 5, 4 and 1", 10, () -> x.read());
@@ -130,12 +113,12 @@ public final class SortingTest {
     private static void replacingDown() {
         MoraineSort x = withRow(2, 3, 50, -1, 999, 50);
         x.sort(0, true, false, true);
-        Check.due("19 down is one run", "50", () -> runsOf(x));
+        Check.due("19 down is one run", "50", () -> Check.runsOf(x));
         MoraineSort y = new MoraineSort();
         y.setMemory(2, 3);
         Check.fileOf(y, -5, -3, -9, -7, -1, -8, -4, -2, -6, 0);
         y.sort(0, true, true, true);
-        Check.due("19 run sizes, down", "8 2", () -> runsOf(y));
+        Check.due("19 run sizes, down", "8 2", () -> Check.runsOf(y));
     }
 
     private static void stability() {
@@ -159,8 +142,8 @@ public final class SortingTest {
     private static void levelAlone() {
         MoraineSort x = withRow(2, 3, 0, 11, 999, 25);
         x.sort(0, false, false, false);
-        Check.due("19 run sizes", "6 6 6 6 1", () -> runsOf(x));
-        Check.due("21 merges", "2>12 2>12 2>24 2>25", () -> mergesOf(x));
+        Check.due("19 run sizes", "6 6 6 6 1", () -> Check.runsOf(x));
+        Check.due("21 merges", "2>12 2>12 2>24 2>25", () -> Check.mergesOf(x));
         Check.due("14 nothing read of one alone: 13, 12, 12, 12 and 1", 50, () -> x.read());
         Check.due("15 nothing written of it: 13, 12, 12, 13", 50, () -> x.written());
     }
@@ -185,7 +168,7 @@ public final class SortingTest {
         x.sortCost(0, false, true, 12);
         x.memoryFor(0, true, 0);
         x.digest();
-        Check.due("18 costs do not change it", "6 6 6 6 1", () -> runsOf(x));
+        Check.due("18 costs do not change it", "6 6 6 6 1", () -> Check.runsOf(x));
         x.drop();
         x.drop();
         Check.due("18 stays without files", 5, () -> x.runs());
